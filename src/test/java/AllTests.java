@@ -1,0 +1,12 @@
+/** Runs the project's own tests; ends with exit code 1 if one failed. */
+public final class AllTests {
+    public static void main(String[] args) {
+        Checks c = new Checks();
+        FaceTest.run(c);
+        ModelTest.run(c);
+        System.out.println(c.passed + " passed, " + c.failed + " failed");
+        if (c.failed > 0) {
+            System.exit(1);
+        }
+    }
+}
