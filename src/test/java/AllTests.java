@@ -3,6 +3,7 @@ public final class AllTests {
     public static void main(String[] args) {
         Checks c = new Checks();
         FaceTest.run(c);
+        PromisesTest.run(c);
         ModelTest.run(c);
         System.out.println(c.passed + " passed, " + c.failed + " failed");
         if (c.failed > 0) {
