@@ -4,6 +4,9 @@ public final class AllTests {
         Checks c = new Checks();
         FaceTest.run(c);
         PromisesTest.run(c);
+        EdgesTest.run(c);
+        HourEdgesTest.run(c);
+        AnswerEdgesTest.run(c);
         ModelTest.run(c);
         System.out.println(c.passed + " passed, " + c.failed + " failed");
         if (c.failed > 0) {

@@ -4,6 +4,12 @@ final class Checks {
         Object run();
     }
 
+    interface OnFleet {
+        Object run(FleetTerms x);
+    }
+
+    private static final int HOURS_AFTER = 7;
+
     int passed = 0;
     int failed = 0;
 
@@ -41,6 +47,32 @@ final class Checks {
         long before = x.digest();
         call.run();
         count(what + " changes nothing", x.digest() == before, x.digest(), before);
+    }
+
+    /**
+     * Whether a call throws an exception of exactly this class (null: none). If it throws, or is one that
+     * changes nothing anyway, then the fleet must be as its twin on which it was not called, in all answers,
+     * also of later hours.
+     */
+    void calls(String what, Scenes.Scene scene, Class<?> due, boolean changes, OnFleet call) {
+        FleetTerms x = scene.make();
+        String want = due == null ? "no exception" : due.getName();
+        String got = "no exception";
+        try {
+            call.run(x);
+        } catch (RuntimeException e) {
+            got = e.getClass().getName();
+        }
+        count(what, got.equals(want), got, want);
+        if (due != null || !changes) {
+            likeItsTwin(what + " changes nothing", x, scene.make());
+        }
+    }
+
+    private void likeItsTwin(String what, FleetTerms x, FleetTerms twin) {
+        same(what, Answers.of(x), Answers.of(twin));
+        same(what + ": hours later", x.pass(HOURS_AFTER), twin.pass(HOURS_AFTER));
+        same(what + ": digest then", x.digest(), twin.digest());
     }
 
     private void count(String what, boolean good, Object got, Object want) {

@@ -62,35 +62,6 @@ final class PromisesTest {
         }
     }
 
-    private static FleetTerms fleetOf(int boats) {
-        FleetTerms x = new FleetTerms();
-        x.fleet(boats);
-        return x;
-    }
-
-    /** A fleet in which boat 0 leads with the term 1, at the hour 2. */
-    private static FleetTerms led(int boats) {
-        FleetTerms x = fleetOf(boats);
-        x.pass(2);
-        return x;
-    }
-
-    /**
-     * Three boats: boat 0 has led with the term 1, and its log is 10, 11, 12 of that term, alone in the
-     * harbour 1; boat 1 leads with the term 2 in the harbour 0, its log is 20 of that term, boat 2 has it.
-     */
-    private static FleetTerms split() {
-        FleetTerms x = led(3);
-        x.write(0, 10);
-        x.write(0, 11);
-        x.write(0, 12);
-        x.go(0, 1);
-        x.pass(3);
-        x.write(1, 20);
-        x.pass(1);
-        return x;
-    }
-
     // ---- the promises
 
     private void promise1NewObject() {
@@ -124,13 +95,13 @@ final class PromisesTest {
         x.fleet(5);
         c.same("all as at first", x.digest(), new FleetTerms().digest());
         x.fleet(7);
-        c.same("also boats that were not there", x.digest(), fleetOf(7).digest());
-        FleetTerms y = split();
+        c.same("also boats that were not there", x.digest(), Scenes.fleetOf(7).digest());
+        FleetTerms y = Scenes.split();
         y.go(0, 0);
         y.pass(3);
         c.same("entries were lost", y.count(7), 3);
         y.fleet(3);
-        c.same("what was counted begins anew", y.digest(), fleetOf(3).digest());
+        c.same("what was counted begins anew", y.digest(), Scenes.fleetOf(3).digest());
         y.pass(2);
         y.write(0, 10);
         c.same("entries of the fleet before are gone", y.agree(0, 1), 0);
@@ -176,7 +147,7 @@ final class PromisesTest {
     }
 
     private void promise5Sink() {
-        FleetTerms x = led(5);
+        FleetTerms x = Scenes.led(5);
         x.write(0, 7);
         x.pass(1);
         c.same("sinks", x.sink(0), false);
@@ -198,7 +169,7 @@ final class PromisesTest {
     }
 
     private void promise6Write() {
-        FleetTerms x = led(5);
+        FleetTerms x = Scenes.led(5);
         c.same("write(0, 0)", x.write(0, 0), 0);
         c.same("write(0, 99)", x.write(0, 99), 1);
         c.same("its term", x.entry(0, 1, 0), 1);
@@ -218,10 +189,10 @@ final class PromisesTest {
         c.fails("10 entries", x, STATE, () -> x.write(0, 5));
         c.fails("10 entries and a wrong catch", x, ARGUMENT, () -> x.write(0, 100));
 
-        FleetTerms y = led(3);
+        FleetTerms y = Scenes.led(3);
         y.sink(0);
         c.fails("it is sunk", y, STATE, () -> y.write(0, 5));
-        FleetTerms z = fleetOf(3);
+        FleetTerms z = Scenes.fleetOf(3);
         z.go(0, 1);
         z.pass(2);
         c.same("it stands", z.told(0, 2), 1);
@@ -243,8 +214,8 @@ final class PromisesTest {
         for (int hours : new int[] {0, 51, -1, MIN, MAX}) {
             c.fails("pass(" + hours + ")", x, ARGUMENT, () -> x.pass(hours));
         }
-        FleetTerms y = split();
-        FleetTerms z = split();
+        FleetTerms y = Scenes.split();
+        FleetTerms z = Scenes.split();
         y.go(0, 0);
         z.go(0, 0);
         y.pass(50);
@@ -267,7 +238,7 @@ final class PromisesTest {
     }
 
     private void promise7VotesByNumbers() {
-        FleetTerms x = fleetOf(3);
+        FleetTerms x = Scenes.fleetOf(3);
         x.setPatience(0, 9);
         x.sink(0);
         x.sink(0);
@@ -278,7 +249,7 @@ final class PromisesTest {
     }
 
     private void promise7WhoStoodFollows() {
-        FleetTerms x = fleetOf(3);
+        FleetTerms x = Scenes.fleetOf(3);
         x.go(0, 1);
         x.pass(2);
         c.same("it stands", x.told(0, 2), 1);
@@ -290,7 +261,7 @@ final class PromisesTest {
     }
 
     private void promise7OneVoteATerm() {
-        FleetTerms x = fleetOf(3);
+        FleetTerms x = Scenes.fleetOf(3);
         x.go(0, 1);
         x.pass(2);
         x.go(0, 0);
@@ -302,7 +273,7 @@ final class PromisesTest {
     }
 
     private void promise7NoVoteForAnOlderLog() {
-        FleetTerms x = fleetOf(3);
+        FleetTerms x = Scenes.fleetOf(3);
         x.setPatience(2, 2);
         x.pass(2);
         x.go(2, 1);
@@ -319,7 +290,7 @@ final class PromisesTest {
     }
 
     private void promise7AskerMeetsAGreaterTerm() {
-        FleetTerms x = fleetOf(4);
+        FleetTerms x = Scenes.fleetOf(4);
         x.sink(0);
         x.sink(2);
         x.sink(3);
@@ -337,7 +308,7 @@ final class PromisesTest {
     }
 
     private void promise7TellerMeetsAGreaterTerm() {
-        FleetTerms x = led(5);
+        FleetTerms x = Scenes.led(5);
         x.go(1, 1);
         x.setPatience(1, 9);
         x.pass(3);
@@ -354,7 +325,7 @@ final class PromisesTest {
     }
 
     private void promise7LogsAreCutAndFilled() {
-        FleetTerms x = split();
+        FleetTerms x = Scenes.split();
         told(x, 0, 1, 0, 2, 1, 1, 2, 2, 3, 0, 1);
         told(x, 1, 2, 1, 2, 0, 1, 3, 3, 1, 1, 2);
         told(x, 2, 2, 1, 0, 0, 1, 4, 4, 1, 0, 2);
@@ -379,7 +350,7 @@ final class PromisesTest {
     }
 
     private void promise7OnlyEntriesOfTheOwnTermAreCommitted() {
-        FleetTerms x = led(5);
+        FleetTerms x = Scenes.led(5);
         x.go(2, 1);
         x.go(3, 1);
         x.go(4, 1);
@@ -405,7 +376,7 @@ final class PromisesTest {
     }
 
     private void promise7MoreThanHalfOfAllBoats() {
-        FleetTerms x = led(4);
+        FleetTerms x = Scenes.led(4);
         x.sink(2);
         x.sink(3);
         x.write(0, 1);
@@ -415,17 +386,17 @@ final class PromisesTest {
         x.pass(1);
         c.same("3 of 4 are", x.told(0, 8), 1);
 
-        FleetTerms y = fleetOf(4);
+        FleetTerms y = Scenes.fleetOf(4);
         y.sink(2);
         y.sink(3);
         c.same("2 votes of 4", y.pass(2), 0);
-        FleetTerms z = fleetOf(4);
+        FleetTerms z = Scenes.fleetOf(4);
         z.sink(3);
         c.same("3 votes of 4", z.pass(2), 1);
     }
 
     private void promise7OnlyThoseThatHearCount() {
-        FleetTerms x = led(5);
+        FleetTerms x = Scenes.led(5);
         x.sink(3);
         x.sink(4);
         x.go(2, 1);
@@ -442,7 +413,7 @@ final class PromisesTest {
     }
 
     private void promise8Told() {
-        FleetTerms x = split();
+        FleetTerms x = Scenes.split();
         x.sink(2);
         x.setPatience(2, 8);
         told(x, 0, 1, 0, 2, 1, 1, 2, 2, 3, 0, 1);
@@ -461,7 +432,7 @@ final class PromisesTest {
     }
 
     private void promise9Entry() {
-        FleetTerms x = split();
+        FleetTerms x = Scenes.split();
         c.same("its term", x.entry(0, 2, 0), 1);
         c.same("its catch", x.entry(0, 2, 1), 12);
         c.same("only this boat has it", x.entry(0, 2, 2), 1);
@@ -479,7 +450,7 @@ final class PromisesTest {
             c.fails("entry(" + wrong + ", 0, 0)", x, INDEX, () -> x.entry(wrong, 0, 0));
             c.fails("entry(0, 0, " + wrong + ")", x, INDEX, () -> x.entry(0, 0, wrong));
         }
-        FleetTerms y = split();
+        FleetTerms y = Scenes.split();
         y.go(0, 0);
         y.pass(1);
         c.same("a place that is left", y.entry(0, 1, 1), 11);
@@ -489,14 +460,14 @@ final class PromisesTest {
     }
 
     private void promise10Agree() {
-        FleetTerms x = split();
+        FleetTerms x = Scenes.split();
         c.same("other entries", x.agree(0, 1), 0);
         c.same("the same ones", x.agree(1, 2), 1);
         c.same("with itself", x.agree(0, 0), 3);
         x.write(1, 21);
         c.same("one is longer", x.agree(1, 2), 1);
         c.same("the other way round", x.agree(2, 1), 1);
-        FleetTerms y = led(3);
+        FleetTerms y = Scenes.led(3);
         y.write(0, 33);
         y.go(0, 1);
         y.pass(3);
@@ -510,7 +481,7 @@ final class PromisesTest {
     }
 
     private void promise11Newer() {
-        FleetTerms x = split();
+        FleetTerms x = Scenes.split();
         c.same("longer, but of a smaller term", x.newer(0, 1), false);
         c.same("shorter, but of a greater term", x.newer(1, 0), true);
         c.same("the same", x.newer(1, 2), true);
@@ -519,7 +490,7 @@ final class PromisesTest {
         x.write(1, 21);
         c.same("longer", x.newer(1, 2), true);
         c.same("shorter", x.newer(2, 1), false);
-        FleetTerms y = led(3);
+        FleetTerms y = Scenes.led(3);
         c.same("both without entries", y.newer(1, 0), true);
         y.write(0, 1);
         c.same("without entries", y.newer(1, 0), false);
@@ -531,7 +502,7 @@ final class PromisesTest {
     }
 
     private void promise12Leader() {
-        FleetTerms x = split();
+        FleetTerms x = Scenes.split();
         c.same("the greater term", x.leader(), 1);
         c.same("two lead", x.count(3), 2);
         c.keeps("leader", x, x::leader);
@@ -545,7 +516,7 @@ final class PromisesTest {
     }
 
     private void promise13Count() {
-        FleetTerms x = split();
+        FleetTerms x = Scenes.split();
         counts(x, 6, 3, 3, 2, 2, 2, 2, 0, 1, 0);
         x.sink(0);
         counts(x, 6, 3, 2, 1, 2, 2, 2, 0, 1, 0);
@@ -559,7 +530,7 @@ final class PromisesTest {
         x.sink(0);
         x.sink(2);
         counts(x, 11, 3, 0, 0, 2, 2, 2, 3, 1, 1);
-        FleetTerms y = led(7);
+        FleetTerms y = Scenes.led(7);
         y.write(0, 1);
         y.pass(1);
         counts(y, 3, 7, 7, 1, 1, 1, 1, 0, 1, 0);
@@ -579,7 +550,7 @@ final class PromisesTest {
     }
 
     private void promise14Harbour() {
-        FleetTerms x = split();
+        FleetTerms x = Scenes.split();
         c.same("up in 0", x.harbour(0, 0), 2);
         c.same("2 of 3", x.harbour(0, 1), 1);
         c.same("the smallest of two alike", x.harbour(0, 2), 1);
@@ -596,7 +567,7 @@ final class PromisesTest {
         c.same("the newest that is up", x.harbour(0, 2), 2);
         x.sink(2);
         c.same("the last one", x.harbour(0, 2), 0);
-        FleetTerms y = fleetOf(4);
+        FleetTerms y = Scenes.fleetOf(4);
         y.sink(0);
         y.sink(1);
         c.same("2 of 4 are not more than half", y.harbour(0, 1), 0);
@@ -619,10 +590,10 @@ final class PromisesTest {
         c.same("3 of 5 hear", x.until(), 0);
         x.sink(2);
         c.same("2 of 5 hear, for ever", x.until(), -1);
-        FleetTerms y = led(3);
+        FleetTerms y = Scenes.led(3);
         y.go(0, 1);
         c.same("who leads hears too few", y.until(), 3);
-        FleetTerms z = led(3);
+        FleetTerms z = Scenes.led(3);
         z.sink(0);
         c.same("who led is sunk", z.until(), 3);
     }
@@ -634,7 +605,7 @@ final class PromisesTest {
         c.same("the term then", x.foresee(2, 4), 1);
         c.same("how often one stood", x.foresee(50, 5), 1);
         c.same("how often one began to lead", x.foresee(50, 6), 1);
-        FleetTerms y = split();
+        FleetTerms y = Scenes.split();
         y.go(0, 0);
         c.same("lost then", y.foresee(2, 7), 2);
         c.same("the most committed then", y.foresee(2, 8), 1);
@@ -644,18 +615,18 @@ final class PromisesTest {
         for (int what = 3; what <= 9; what++) {
             int w = what;
             c.keeps("foresee", y, () -> y.foresee(50, w));
-            FleetTerms z = split();
+            FleetTerms z = Scenes.split();
             z.go(0, 0);
             z.pass(3);
             c.same("foresee(3, " + w + ")", y.foresee(3, w), z.count(w));
         }
-        FleetTerms u = fleetOf(3);
+        FleetTerms u = Scenes.fleetOf(3);
         u.setPatience(0, 9);
         u.go(0, 1);
         u.sink(1);
         u.sink(2);
         c.same("it stands at the hours 2, 11, 20, 29, 38, 47", u.foresee(50, 5), 6);
-        FleetTerms v = fleetOf(3);
+        FleetTerms v = Scenes.fleetOf(3);
         v.sink(0);
         v.sink(2);
         v.pass(3);
@@ -675,14 +646,14 @@ final class PromisesTest {
         x.go(3, 2);
         c.same("all are the same: the smallest", x.advise(3, 20), 0);
         for (int harbour = 1; harbour <= 2; harbour++) {
-            FleetTerms y = led(3);
+            FleetTerms y = Scenes.led(3);
             y.write(0, 1);
             y.go(0, harbour);
             c.same("to who leads, in an hour", y.advise(1, 1), harbour);
             c.same("to who leads, in 20", y.advise(1, 20), harbour);
             c.keeps("advise", y, () -> y.advise(1, 20));
         }
-        FleetTerms z = led(3);
+        FleetTerms z = Scenes.led(3);
         z.write(0, 1);
         z.write(0, 2);
         z.go(0, 1);
@@ -703,7 +674,7 @@ final class PromisesTest {
 
     private void promise18Mean() {
         c.same("none", new FleetTerms().mean(), 0.0);
-        FleetTerms x = split();
+        FleetTerms x = Scenes.split();
         c.same("1 of 3", x.mean(), 1.0 / 3.0);
         x.go(0, 0);
         x.pass(1);
@@ -712,7 +683,7 @@ final class PromisesTest {
         c.same("sunk ones count too", x.mean(), 2.0 / 3.0);
         x.sink(1);
         c.same("who is raised knows none", x.mean(), 1.0 / 3.0);
-        FleetTerms y = led(4);
+        FleetTerms y = Scenes.led(4);
         y.write(0, 1);
         y.write(0, 2);
         y.pass(2);
@@ -727,20 +698,20 @@ final class PromisesTest {
             0, -1, 0, 0, 1, 3, 3, 0, 0, -1,
             0, -1, 0, 0, 1, 4, 4, 0, 0, -1,
         };
-        c.same("three boats at first", fleetOf(3).digest(), digestOf(first));
+        c.same("three boats at first", Scenes.fleetOf(3).digest(), digestOf(first));
         long[] then = {
             6, 3, 3, 2, 2, 2, 2, 0, 1, 0,
             1, 0, 2, 1, 1, 2, 2, 3, 0, 1, 1, 10, 1, 1, 11, 1, 1, 12, 1,
             2, 1, 2, 0, 1, 3, 3, 1, 1, 2, 2, 20, 2,
             2, 1, 0, 0, 1, 4, 4, 1, 0, 2, 2, 20, 2,
         };
-        FleetTerms x = split();
+        FleetTerms x = Scenes.split();
         c.same("split boats with logs", x.digest(), digestOf(then));
         c.same("once more", x.digest(), digestOf(then));
     }
 
     private void theGreatestFleet() {
-        FleetTerms x = led(7);
+        FleetTerms x = Scenes.led(7);
         for (int fish = 0; fish < 10; fish++) {
             x.write(0, fish);
         }
@@ -759,7 +730,7 @@ final class PromisesTest {
     }
 
     private void afterTheGreatestFleet() {
-        FleetTerms x = led(7);
+        FleetTerms x = Scenes.led(7);
         for (int boat = 3; boat < 7; boat++) {
             x.setPatience(boat, 2);
         }
@@ -768,7 +739,7 @@ final class PromisesTest {
         x.sink(0);
         x.pass(9);
         x.fleet(3);
-        c.same("boats that are no more are not counted", x.digest(), fleetOf(3).digest());
+        c.same("boats that are no more are not counted", x.digest(), Scenes.fleetOf(3).digest());
         c.same("nor lead", x.leader(), -1);
         c.same("nor are heard", x.harbour(0, 0), 3);
         c.same("nor stand", x.foresee(2, 5), 1);
