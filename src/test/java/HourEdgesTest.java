@@ -35,6 +35,7 @@ final class HourEdgesTest {
         t.promise7TheGreatestNumberThatMoreThanHalfHave();
         t.promise7TheLastOneIsOfItsOwnTerm();
         t.promise7TheStepsOfOneHour();
+        t.promise7NoneOneAndTwoBeginToLead();
     }
 
     private void told(FleetTerms x, int boat, int... want) {
@@ -465,5 +466,26 @@ final class HourEdgesTest {
         c.same("an entry is told and committed in one hour", x.told(1, 8), 2);
         c.same("who is told knows it an hour later", x.told(2, 8), 0);
         c.same("the hour", x.count(0), 7);
+    }
+
+    // Boat 1 alone has an entry. Boat 0 leads with the vote of boat 2, then boat 1 stands in the same hour.
+    private void promise7NoneOneAndTwoBeginToLead() {
+        FleetTerms x = Scenes.fleetOf(3);
+        x.setPatience(0, 9);
+        Scenes.restart(x, 0);
+        c.same("none in 2 hours", x.pass(2), 0);
+        c.same("one in the third", x.pass(1), 1);
+        x.write(1, 5);
+        Scenes.restart(x, 1);
+        x.setPatience(0, 3);
+        Scenes.restart(x, 0);
+        c.same("foreseen", x.foresee(3, 6), 3);
+        c.same("none in 2 hours", x.pass(2), 0);
+        c.same("two in one hour", x.pass(1), 2);
+        told(x, 0, 3, 1, 0, 0, 1, 3, 3, 1, 0, 1);
+        told(x, 1, 3, 1, 2, 0, 1, 3, 3, 1, 0, 1);
+        told(x, 2, 3, 1, 0, 0, 1, 4, 4, 1, 0, 1);
+        c.same("one leads", x.count(3), 1);
+        c.same("three began to, in all", x.count(6), 3);
     }
 }
