@@ -46,6 +46,7 @@ final class PromisesTest {
         t.promise19Digest();
         t.theGreatestFleet();
         t.afterTheGreatestFleet();
+        t.theExampleOfTheReadme();
     }
 
     // ---- helpers
@@ -751,6 +752,14 @@ final class PromisesTest {
         x.sink(2);
         c.same("nor give votes", x.until(), -1);
         c.fails("nor are told of", x, INDEX, () -> x.told(3, 0));
+    }
+
+    private void theExampleOfTheReadme() {
+        FleetTerms fleet = new FleetTerms();
+        fleet.pass(2);
+        fleet.write(fleet.leader(), 42);
+        fleet.pass(2);
+        c.same("what README.md says of its example", fleet.count(9), 1);
     }
 
     private static long digestOf(long[] numbers) {
